@@ -11,6 +11,7 @@ public final class HoldingsTest {
         thePoolOfSplitShares();
         thePoolGetsWhatIsLeft();
         theLargestNumbers();
+        sixtyDays();
         costs();
         wrongCalls();
         CHECKS.end("HoldingsTest");
@@ -123,6 +124,26 @@ public final class HoldingsTest {
         CHECKS.due("cost left", 56999400, () -> x.poolCost(0, 1824));
         CHECKS.due("costIn", 58000000, () -> x.costIn(0));
         CHECKS.due("costMatched", 1000600, () -> x.costMatched(0));
+    }
+
+    private static void sixtyDays() {
+        GainsReckoner x = new GainsReckoner();
+        for (int i = 59; i >= 0; i--) {
+            x.buy(0, 1 + 30 * i, 1, i + 1);
+        }
+        CHECKS.due("none on day 0", 0, () -> x.holding(0, 0));
+        CHECKS.due("no pool on day 0", 0, () -> x.poolUnits(0, 0));
+        CHECKS.due("one on day 1", 1, () -> x.holding(0, 30));
+        CHECKS.due("holding", 60, () -> x.holding(0, 1824));
+        CHECKS.due("poolUnits", 60, () -> x.poolUnits(0, 1824));
+        CHECKS.due("poolCost", 1830, () -> x.poolCost(0, 1824));
+        CHECKS.due("the day before the last", 1770, () -> x.poolCost(0, 1770));
+        CHECKS.due("costIn", 1830, () -> x.costIn(0));
+        CHECKS.done("the last day's", "nothing", () -> x.cancel(0));
+        CHECKS.done("the first day's", "nothing", () -> x.cancel(59));
+        CHECKS.due("two less", 58, () -> x.holding(0, 1824));
+        CHECKS.due("their cost is gone", 1830 - 61, () -> x.costIn(0));
+        CHECKS.due("nothing on the first day", 0, () -> x.poolUnits(0, 30));
     }
 
     private static void costs() {

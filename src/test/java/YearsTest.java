@@ -57,6 +57,9 @@ public final class YearsTest {
         CHECKS.due("taxable of year 1", 1000, () -> x.taxable(1));
         x.cancel(5);
         CHECKS.due("without a sale", 1070, () -> x.net(1));
+        x.cancel(7);
+        CHECKS.due("without its last sale of the year", 0, () -> x.gain(2, 1));
+        CHECKS.due("the next year's stays", -5, () -> x.gain(2, 2));
     }
 
     private static void lossesAreCarried() {
